@@ -477,6 +477,7 @@ public final class DoorPost {
         private static final int MOST_GROWTH = 99;
 
         private final int[] steps = new int[MOST_STEPS];
+        // Of a NUMBER its value, of a NAME its place, of a ? the step at which the next LINE begins.
         private final int[] details = new int[MOST_STEPS];
         private final int[] stack = new int[MOST_STEPS];
         private int length = 0;
@@ -515,15 +516,17 @@ public final class DoorPost {
 
         private int workOut(int[] names) {
             top = 0;
+            int nextLine = 0;
             for (int i = 0; i < length; i++) {
                 int step = steps[i];
+                if (i < nextLine) {
+                    continue;
+                }
                 if (step == ';') {
                     return pop();
                 }
                 if (step == '?') {
-                    if (pop() == 0) {
-                        i = Math.max(i, details[i]);
-                    }
+                    nextLine = pop() == 0 ? details[i] : i;
                 } else {
                     takeStep(step, details[i], names);
                 }
@@ -644,7 +647,7 @@ public final class DoorPost {
                     return false;
                 }
                 if (question < details.length) {
-                    details[question] = written;
+                    details[question] = written + 1;
                 }
             }
             write(';', 0);
@@ -1666,8 +1669,9 @@ public final class DoorPost {
                 case BYTES: return (byte) v;
                 case SHORTS: return (short) v;
                 case INTS: return (int) v;
+                case LONGS: return v;
                 case BOOLEANS: return v != 0 ? 1 : 0;
-                default: return v;
+                default: return 0;
             }
         }
 
