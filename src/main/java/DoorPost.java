@@ -117,7 +117,8 @@ public final class DoorPost {
     }
 
     public int marks(int shelf, int i, int n) {
-        if (!shelves.has(shelf) || i < 0 || !within(n, 1, 15)) {
+        // No place is BAD here: at one that is not there, below 0 too, the row has ended.
+        if (!shelves.has(shelf) || !within(n, 1, 15)) {
             return BAD;
         }
         if (!shelves.holdsNothing(shelf) && !shelves.holdsShorts(shelf)) {

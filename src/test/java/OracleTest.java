@@ -475,7 +475,7 @@ public final class OracleTest {
         }
 
         int marks(int shelf, int i, int n) {
-            if (shelf < 0 || shelf > 5 || i < 0 || n < 1 || n > 15) {
+            if (shelf < 0 || shelf > 5 || n < 1 || n > 15) {
                 return BAD;
             }
             Object o = shelves[shelf];

@@ -384,7 +384,6 @@ public final class PromiseTest {
         due(BAD, x.marks(6, 0, 1), "shelf 6");
         due(BAD, x.marks(0, 0, 0), "n 0");
         due(BAD, x.marks(0, 0, 16), "n 16");
-        due(BAD, x.marks(0, -1, 1), "i -1");
         due(0, x.marks(0, 0, 1), "nothing there");
         due(0, x.marks(0, 99, 15), "nothing there");
         for (int sort = 0; sort < 5; sort++) {
@@ -395,6 +394,7 @@ public final class PromiseTest {
         x.keep(1, 0);
         due(-12, x.marks(1, 0, 1), "a mark of acts");
         due(BAD, x.marks(1, 0, 16), "BAD ahead of -12");
+        marksFromPlacesThatAreNotThere();
 
         DoorPost y = new DoorPost();
         fill(y, 2, 9999, 6, 600, 4, 100, 0, 1, 2, 200, 5, 599, 3, 7, 7);
@@ -427,6 +427,27 @@ public final class PromiseTest {
         due(2, y.marks(4, 0, 15), "until full");
         due(0, y.marks(4, 0, 15), "full");
         due(30, y.count(2), "marks");
+    }
+
+    /** No place makes a call BAD: the row has ended there, if it is one of shorts or missing. */
+    private static void marksFromPlacesThatAreNotThere() {
+        DoorPost x = new DoorPost();
+        x.body(0);
+        for (int i : new int[] {Integer.MIN_VALUE, -5, -4, -1, 8, 60, Integer.MAX_VALUE}) {
+            x.keep(0, -1);
+            due(0, x.marks(0, i, 15), "nothing there, place " + i);
+            x.keep(0, 0);
+            due(-12, x.marks(0, i, 1), "a mark of acts, place " + i);
+            for (int sort = 0; sort < 5; sort++) {
+                x.row(0, sort, 8);
+                due(sort == 1 ? 0 : -12, x.marks(0, i, 15), "a row of sort " + sort + ", place " + i);
+            }
+            due(BAD, x.marks(0, i, 0), "n 0, place " + i);
+            due(BAD, x.marks(0, i, 16), "n 16, place " + i);
+            due(BAD, x.marks(-1, i, 1), "shelf -1, place " + i);
+            due(BAD, x.marks(6, i, 1), "shelf 6, place " + i);
+        }
+        due(0, x.count(2), "marks");
     }
 
     private static void paint() {
