@@ -884,6 +884,15 @@ public final class PromiseTest {
         due(5 + 22, x.falls(1), "two below the greatest: by 1306 it is 117, by 1332 it is 115");
         due(BAD, x.falls(3), "no such child");
         due(BAD, x.falls(-1), "child -1");
+        DoorPost y = new DoorPost();
+        y.child(50, 2000, PLAIN);
+        y.child(0, 1280, PLAIN);
+        law(y, "0");
+        due(NOT, y.falls(0), "ahead of birth there is no line to be below, though the first one is 14");
+        law(y, "k=6&a>598?99;0");
+        due(599, y.falls(1), "in the last month");
+        law(y, "k=6&a>599?99;0");
+        due(NOT, y.falls(1), "behind the last month");
     }
 
     private static void overtakes() {
@@ -908,6 +917,13 @@ public final class PromiseTest {
         due(BAD, x.overtakes(5), "no such child");
         due(BAD, x.overtakes(50), "no such child");
         due(BAD, x.overtakes(-1), "cd -1");
+        DoorPost last = new DoorPost();
+        last.child(0, 1280, PLAIN);
+        last.child(0, 1280, PLAIN);
+        law(last, "k=0&a>598?5;0");
+        due(599, last.overtakes(1), "in the last month");
+        law(last, "k=0&a>599?5;0");
+        due(NOT, last.overtakes(1), "behind the last month");
         DoorPost y = new DoorPost();
         law(y, "m=0&k=0?99;k=1");
         y.child(0, 1000, PLAIN);
