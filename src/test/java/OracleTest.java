@@ -12,7 +12,7 @@ public final class OracleTest {
     private static int calls = 0;
 
     public static void main(String[] args) {
-        for (int seed = 1; seed <= 240; seed++) {
+        for (int seed = 1; seed <= 1200; seed++) {
             new Run(seed).play();
         }
         for (int seed = 1; seed <= 3000; seed++) {
@@ -1003,6 +1003,8 @@ public final class OracleTest {
     // ---- runs
 
     static final class Run {
+        // What later calls answer is free: no run goes beyond, whatever its last step is.
+        static final int MOST_CALLS = 512, LONGEST_STEP = 150;
         final int seed;
         final Random random;
         final DoorPost post = new DoorPost();
@@ -1048,13 +1050,49 @@ public final class OracleTest {
         }
 
         void play() {
+            int first = calls;
             int children = upTo(0, 6);
             for (int k = 0; k < children; k++) {
                 tellChild();
             }
-            int length = upTo(60, 400);
-            for (int k = 0; k < length; k++) {
+            switch (random.nextInt(6)) {
+                case 0: tellManyMarks(); break;
+                case 1: tellManyBodies(); break;
+                case 2: tellManyWants(); break;
+                default: break;
+            }
+            for (int k = 0; k < 400 && calls - first <= MOST_CALLS - LONGEST_STEP; k++) {
                 step();
+            }
+            if (calls - first > MOST_CALLS) {
+                same(name("calls of one object"), calls - first, MOST_CALLS);
+            }
+        }
+
+        /** Most of thirty, from a row that is taken twice. */
+        void tellManyMarks() {
+            int shelf = upTo(0, 5);
+            fillRow(shelf, 60);
+            for (int k = 0; k < 4; k++) {
+                int i = 4 * upTo(0, 3);
+                same(name("marks", shelf, i, 15), post.marks(shelf, i, 15), oracle.marks(shelf, i, 15));
+            }
+        }
+
+        void tellManyBodies() {
+            int n = upTo(45, 52);
+            for (int k = 0; k < n; k++) {
+                int kind = upTo(0, 7);
+                same(name("body", kind), post.body(kind), oracle.body(kind));
+            }
+        }
+
+        void tellManyWants() {
+            int n = upTo(8, 11);
+            for (int k = 0; k < n; k++) {
+                int span = aSpan();
+                int much = upTo(1, 9);
+                same(name("want", span, much), post.want(span, much), oracle.want(span, much));
             }
         }
 
@@ -1125,7 +1163,7 @@ public final class OracleTest {
                     c = around(1, 15);
                     same(name("marks", a, b, c), post.marks(a, b, c), oracle.marks(a, b, c));
                     break;
-                case 11: fillRow(); break;
+                case 11: fillRow(upTo(0, 5), upTo(0, 30)); break;
                 case 12:
                     a = aMonth();
                     if (random.nextInt(3) == 0) same(name("paint", a), post.paint(a), oracle.paint(a));
@@ -1235,13 +1273,11 @@ public final class OracleTest {
             }
         }
 
-        void fillRow() {
-            int shelf = upTo(0, 5);
-            int n = upTo(0, 30);
+        void fillRow(int shelf, int n) {
             same(name("row", shelf, 1, n), post.row(shelf, 1, n), oracle.row(shelf, 1, n));
             for (int i = 0; i < n; i++) {
                 int v = new int[] {upTo(0, 5000), upTo(0, 6), upTo(0, 600), upTo(0, 4)}[i % 4];
-                if (random.nextInt(40) == 0) {
+                if (random.nextInt(80) == 0) {
                     v = around(-1, 10000);
                 }
                 same(name("put", shelf, i, v), post.put(shelf, i, v), oracle.put(shelf, i, v));
