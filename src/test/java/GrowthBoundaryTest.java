@@ -9,6 +9,8 @@ public final class GrowthBoundaryTest {
     private static String sentence = "";
 
     public static void main(String[] args) {
+        theConstants();
+        fiveHundredAndTwelveCalls();
         aNewObjectIsEmpty();
         twoObjectsShareNothing();
         bornInAMonth();
@@ -98,7 +100,29 @@ public final class GrowthBoundaryTest {
         due(1280 + growth, x.height(0, 1), "the first month by " + text);
     }
 
-    // ---- promise 1
+    // ---- the face, promise 1
+
+    private static void theConstants() {
+        says("BAD (-1); NOT (-2); FULL (-3); STATE (-5). VOID is -2000000000.");
+        due(-1, DoorPost.BAD, "BAD");
+        due(-2, DoorPost.NOT, "NOT");
+        due(-3, DoorPost.FULL, "FULL");
+        due(-5, DoorPost.STATE, "STATE");
+        due(-2000000000, DoorPost.VOID, "VOID");
+    }
+
+    private static void fiveHundredAndTwelveCalls() {
+        says("An object is used for at most 512 calls after it has been made");
+        DoorPost x = new DoorPost();
+        due(0, x.child(0, 500, PLAIN), "call 1");
+        due(0, x.mark(0, 60, 600), "call 2");
+        for (int call = 3; call <= 509; call++) {
+            due(call - 3, x.mend(0, 0, call - 2), "call " + call);
+        }
+        due(39, x.undo(), "call 510");
+        due(506, x.of(0, 0), "call 511");
+        due(540, x.height(0, 1), "call 512");
+    }
 
     private static void aNewObjectIsEmpty() {
         says("No children, no marks.");
