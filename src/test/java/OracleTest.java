@@ -1,4 +1,7 @@
+import java.lang.reflect.Method;
+import java.lang.reflect.Modifier;
 import java.util.ArrayList;
+import java.util.Comparator;
 import java.util.List;
 import java.util.Random;
 
@@ -11,9 +14,13 @@ public final class OracleTest {
     private static int wrong = 0;
     private static int calls = 0;
 
-    public static void main(String[] args) {
+    public static void main(String[] args) throws Exception {
         for (int seed = 1; seed <= 1200; seed++) {
             new Run(seed).play();
+        }
+        List<Method> face = face();
+        for (int seed = 1; seed <= 300; seed++) {
+            new Run(90000 + seed).playEdges(face);
         }
         for (int seed = 1; seed <= 3000; seed++) {
             playLaws(new Random(70000 + seed), seed);
@@ -22,6 +29,18 @@ public final class OracleTest {
         if (wrong != 0) {
             System.exit(1);
         }
+    }
+
+    /** The calls of the document, in an order that is the same on each machine. */
+    static List<Method> face() {
+        List<Method> all = new ArrayList<>();
+        for (Method method : DoorPost.class.getDeclaredMethods()) {
+            if (Modifier.isPublic(method.getModifiers())) {
+                all.add(method);
+            }
+        }
+        all.sort(Comparator.comparing(Method::getName));
+        return all;
     }
 
     static void same(String where, long got, long want) {
@@ -1003,6 +1022,12 @@ public final class OracleTest {
     // ---- runs
 
     static final class Run {
+        // The edges that the document names, what is beside them, and the ends of the ints.
+        static final int[] EDGES = {Integer.MIN_VALUE, Integer.MIN_VALUE + 1, -1001, -100, -11, -10, -9, -4, -2, -1,
+            0, 1, 2, 3, 4, 5, 6, 7, 8, 9, 10, 11, 14, 15, 16, 23, 24, 25, 29, 30, 31, 49, 50, 59, 60, 61, 64, 65, 70,
+            99, 100, 119, 120, 255, 256, 499, 500, 599, 600, 601, 2000, 2001, 3000, 5099, 5100, 5991, 5992, 6000, 9999,
+            10000, 32767, 32768, 244300, 482999, 483000, 486000, 486001, 493000, 599599, 599600, 600599,
+            Integer.MAX_VALUE - 3, Integer.MAX_VALUE};
         // What later calls answer is free: no run goes beyond, whatever its last step is.
         static final int MOST_CALLS = 512, LONGEST_STEP = 150;
         final int seed;
@@ -1067,6 +1092,37 @@ public final class OracleTest {
             if (calls - first > MOST_CALLS) {
                 same(name("calls of one object"), calls - first, MOST_CALLS);
             }
+        }
+
+        /** Each call with numbers drawn from the edges alone, on a post that holds something or nothing. */
+        void playEdges(List<Method> face) throws Exception {
+            int first = calls;
+            int children = upTo(0, 6);
+            for (int k = 0; k < children; k++) {
+                tellChild();
+            }
+            int marks = upTo(0, 30);
+            for (int k = 0; k < marks; k++) {
+                tellMark();
+            }
+            while (calls - first < MOST_CALLS) {
+                step++;
+                tellEdge(face.get(random.nextInt(face.size())));
+            }
+        }
+
+        void tellEdge(Method call) throws Exception {
+            Class<?>[] types = call.getParameterTypes();
+            Object[] drawn = new Object[types.length];
+            StringBuilder all = new StringBuilder(call.getName());
+            for (int k = 0; k < types.length; k++) {
+                int edge = EDGES[random.nextInt(EDGES.length)];
+                drawn[k] = types[k] == long.class ? (Object) ((long) edge << upTo(0, 33)) : (Object) edge;
+                all.append(' ').append(drawn[k]);
+            }
+            Method other = Oracle.class.getDeclaredMethod(call.getName(), types);
+            same(name(all.toString()), ((Number) call.invoke(post, drawn)).longValue(),
+                ((Number) other.invoke(oracle, drawn)).longValue());
         }
 
         /** Most of thirty, from a row that is taken twice. */
